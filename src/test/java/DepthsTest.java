@@ -39,6 +39,7 @@ public final class DepthsTest {
         CHECK.due("spread is 21", x.sinks(14, 7), 907029);
         CHECK.due("deepest", x.sinks(320, 999), 44);
         CHECK.due("not deeper", x.sinks(321, 999), 0);
+        CHECK.due("x 999", x.sinks(999, 0), 0);
         CHECK.due("x 1000", x.sinks(1000, 0), -2);
         CHECK.due("x -1", x.sinks(-1, 0), -2);
         CHECK.due("s 1000", x.sinks(0, 1000), -2);
@@ -51,6 +52,7 @@ public final class DepthsTest {
         CHECK.due("no number runs over", x.sinks(0, 11), 9801L * 1000000 / (108 * 108));
         x.law(3, 1);
         CHECK.due("least", x.sinks(300, 999), 1000000 / (9890 * 9890));
+        CHECK.due("a spread of 1", x.sinks(0, 0), 1000000);
     }
 
     private static void worth() {
@@ -67,6 +69,10 @@ public final class DepthsTest {
         x.asOf(4);
         CHECK.due("none known", x.worth(0, 1), 0);
         x.asOf(99);
+        x.law(0, 99);
+        x.law(3, 1);
+        CHECK.due("the greatest blank is 0 seconds", x.worth(0, 1), 2000000);
+        x.law(0, 20);
         x.law(1, 1);
         x.law(3, 99);
         // all are in reach, the spread of 120 seconds is 360
@@ -92,5 +98,10 @@ public final class DepthsTest {
         CHECK.due("as of", x.depth(), 200);
         x.fill(0, 0, 56);
         CHECK.due("of like ones the least", x.depth(), 100);
+        x.fill(0, 0, 56);
+        for (int i = 0; i < 9; i++) {
+            x.form(1, 0, 50, -1, 0, 0);
+        }
+        CHECK.due("by the least worth, not the greatest", x.depth(), 100);
     }
 }

@@ -5,6 +5,7 @@ public final class HoursTest {
     public static void main(String[] args) {
         hours();
         plan();
+        everyPlan();
         waits();
         waitsRefused();
         order();
@@ -46,6 +47,7 @@ public final class HoursTest {
         for (int what = 0; what < 3; what++) {
             CHECK.due("no use in mending, " + what, x.plan(1, 3, 2, what), 0);
         }
+        CHECK.due("one week", x.plan(8, 1, 0, 0), 8);
         int hours = 0;
         x.law(6, 3);
         for (int i = 0; i < 17; i++) {
@@ -60,6 +62,25 @@ public final class HoursTest {
         CHECK.due("week -1", x.plan(1, 5, -1, 0), -2);
         CHECK.due("what 3", x.plan(1, 5, 0, 3), -2);
         CHECK.due("what -1", x.plan(1, 5, 0, -1), -2);
+    }
+
+    /** All flyers and SHEDS against the plain model, over few WEEKS and over all of them. */
+    private static void everyPlan() {
+        for (int sheds = 0; sheds <= 8; sheds++) {
+            FormRoom x = new FormRoom();
+            PlainRoom plain = new PlainRoom();
+            x.law(6, sheds);
+            plain.law(6, sheds);
+            for (int n = 1; n <= 8; n++) {
+                for (int weeks = 1; weeks <= 20; weeks += weeks < 6 ? 1 : 7) {
+                    CHECK.due("hours(" + n + ", " + weeks + ")", x.hours(n, weeks), plain.hours(n, weeks));
+                    for (int i = 0; i < 3 * weeks; i++) {
+                        String call = "SHEDS " + sheds + ": plan(" + n + ", " + weeks + ", " + i / 3 + ", " + i % 3 + ")";
+                        CHECK.due(call, x.plan(n, weeks, i / 3, i % 3), plain.plan(n, weeks, i / 3, i % 3));
+                    }
+                }
+            }
+        }
     }
 
     private static void waits() {
@@ -106,6 +127,9 @@ public final class HoursTest {
         Check.lay(x, 0, 0, 1, 0, 1, 0);
         CHECK.due("nothing saved", x.order(0, 9, 0), 0);
         CHECK.due("the first of all", x.order(0, 9, 1), 0);
+        Check.lay(x, 0, 0, 6, 1, 5, 1, 4, 1, 3, 1, 2, 1, 1, 1);
+        CHECK.due("six pairs", x.order(0, 21, 0), 20 + 18 + 15 + 11 + 6);
+        CHECK.due("the shortest first", x.order(0, 21, 1), 5);
     }
 
     private static void orderRefused() {
@@ -128,6 +152,7 @@ public final class HoursTest {
         CHECK.due("T 0", x.order(0, 0, 0), -2);
         CHECK.due("T 201", x.order(0, 201, 0), -2);
         CHECK.due("what 2", x.order(0, 5, 2), -2);
+        CHECK.due("what -1", x.order(0, 5, -1), -2);
         CHECK.due("sheet -1", x.order(-1, 5, 0), -2);
         CHECK.due("BAD ahead of NULL", x.order(1, 0, 0), -2);
         Check.lay(x, 0, 2);

@@ -42,6 +42,9 @@ public final class SailingTest {
     private static void size() {
         FormRoom x = new FormRoom();
         CHECK.due("none", x.size(1), -1);
+        x.form(2, 0, 5, 1, 1, 0);
+        CHECK.due("one that sailed alone", x.size(1), 0);
+        x.fill(0, 1, -1);
         x.form(2, 0, 5, 9, 3, 0);
         CHECK.due("1 to 9", x.size(1), 0);
         x.form(2, 0, 5, 99, 33, 0);
@@ -87,6 +90,7 @@ public final class SailingTest {
         CHECK.due("to 100", x.mean(3, 0, 0, 100, 0), Check.BAD_LONG);
         CHECK.due("from above to", x.mean(3, 0, 5, 4, 0), Check.BAD_LONG);
         CHECK.due("what 2", x.mean(3, 0, 0, 99, 2), Check.BAD_LONG);
+        CHECK.due("what -1", x.mean(3, 0, 0, 99, -1), Check.BAD_LONG);
     }
 
     private static void did() {
@@ -114,6 +118,7 @@ public final class SailingTest {
         CHECK.due("y 100", x.did(1, 0, 10, 100, 0), Check.BAD_LONG);
         CHECK.due("y -1", x.did(1, 0, 10, -1, 0), Check.BAD_LONG);
         CHECK.due("BAD ahead of NOT", x.did(1, 0, 10, 10, 2), Check.BAD_LONG);
+        CHECK.due("what -1", x.did(1, 0, 10, 90, -1), Check.BAD_LONG);
     }
 
     private static void didAtTheEnds() {
@@ -147,5 +152,6 @@ public final class SailingTest {
         CHECK.due("kind 4", x.leans(0, 4, 0, 0), Check.BAD_LONG);
         CHECK.due("box 3", x.leans(0, 0, 3, 0), Check.BAD_LONG);
         CHECK.due("what 2", x.leans(0, 0, 0, 2), Check.BAD_LONG);
+        CHECK.due("what -1", x.leans(0, 0, 0, -1), Check.BAD_LONG);
     }
 }

@@ -62,6 +62,10 @@ public final class SeaTest {
         CHECK.due("cell -1", x.boat(1, -1, 0), -2);
         CHECK.due("habit 3", x.boat(3, 0, 0), -2);
         CHECK.due("habit -1", x.boat(-1, 0, 0), -2);
+        Check.type(x, 4, "eeeesssswwww");
+        CHECK.due("twelve bytes", x.boat(2, 0, 12), 20);
+        CHECK.due("from the first again", x.boat(2, 0, 14), 22);
+        x.wipe(4);
         x.type(3, 'x');
         CHECK.due("with a fault it stays", x.boat(1, 12, 1), 12);
         x.sea(0, 1);
