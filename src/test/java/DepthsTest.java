@@ -72,6 +72,7 @@ public final class DepthsTest {
         x.law(0, 99);
         x.law(3, 1);
         CHECK.due("the greatest blank is 0 seconds", x.worth(0, 1), 2000000);
+        CHECK.due("the greatest blank is 1 second", x.worth(9, 1), 1000000 / 9);
         x.law(0, 20);
         x.law(1, 1);
         x.law(3, 99);
