@@ -6,13 +6,21 @@ final class Check {
 
     private int wrong = 0;
     private int asked = 0;
+    private int sentences = 0;
+    private String sentence = "";
+
+    /** The document's words that the answers from here on are due by; a wrong one is told with them. */
+    void sentence(String words) {
+        sentences++;
+        sentence = "'" + words + "': ";
+    }
 
     void due(String call, long got, long want) {
         asked++;
         if (got != want) {
             wrong++;
             if (wrong <= 40) {
-                System.out.println(call + " answered " + got + ", due is " + want);
+                System.out.println(sentence + call + " answered " + got + ", due is " + want);
             }
         }
     }
@@ -28,7 +36,8 @@ final class Check {
     }
 
     void end() {
-        System.out.println(asked + " answers, " + wrong + " not as due");
+        String by = sentences == 0 ? "" : " by " + sentences + " sentences";
+        System.out.println(asked + " answers" + by + ", " + wrong + " not as due");
         if (wrong != 0) {
             System.exit(1);
         }
