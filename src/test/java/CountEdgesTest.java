@@ -19,6 +19,7 @@ public final class CountEdgesTest {
         digestOfNew();
         digestWraps();
         digestAsTold();
+        digestOfShares();
         digestOfEach();
         digestOfNoMore();
         digestOfFull();
@@ -224,6 +225,28 @@ public final class CountEdgesTest {
             each.set(16 + i, (long) (i % 2));
         }
         CHECK.due("none has", x.digest(), folded(each));
+    }
+
+    private static void digestOfShares() {
+        CHECK.sentence("share() 0, 1, above and below: in this order");
+        FormRoom x = new FormRoom();
+        Check.type(x, 0, "k=0");
+        Check.type(x, 1, "a=1");
+        for (int a : new int[] {1, 0, 0, 0, -1, -1}) {
+            x.form(0, 0, 0, a, 0, 0);
+        }
+        CHECK.parts("the least", x.share(0, 0), x.share(0, 1), 1, 6);
+        CHECK.parts("the greatest", x.share(1, 0), x.share(1, 1), 1, 2);
+        x.fill(5, 0, 1);
+        CHECK.parts("the least", x.share(0, 0), x.share(0, 1), 1, 3);
+        x.fill(3, 0, 1);
+        // the least is 1 by 2, the greatest 2 by 3: no number of them stands twice in its place
+        List<Long> each = list(6, 6, 6, 99, 33554431, 0, 1);
+        for (int a : new int[] {1, 0, 0, 1, -1, 1}) {
+            each.addAll(list(0, 0, 0, a, 0, 0, 1));
+        }
+        each.addAll(list(-1, -1, -1, -1, -1, 6, 0, 3, 1, 1, 2, 2, 3, 20, 300, 30, 20, 2, 3, 2, 0, -1));
+        CHECK.due("digest()", x.digest(), folded(each));
     }
 
     private static void differs(String what, FormRoom x, long[] before) {

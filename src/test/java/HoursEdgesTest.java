@@ -12,6 +12,7 @@ public final class HoursEdgesTest {
         shedsAreFew();
         lawOfTheDay();
         anyOrderOfCalls();
+        planBehindLongerOnes();
         hoursRefused();
         asManyFly();
         wornAreMended();
@@ -127,6 +128,20 @@ public final class HoursEdgesTest {
         CHECK.due("hours(7, 20)", x.hours(7, 20), most);
         CHECK.due("hours(7, 20) of a new room", with(3).hours(7, 20), most);
         CHECK.due("hours(7, 9) of a new room", with(3).hours(7, 9), fewer);
+    }
+
+    private static void planBehindLongerOnes() {
+        CHECK.sentence("In WEEK i of THE PLAN: whatever was asked ahead of it");
+        int[][] due = {week(3, 3, 0), week(2, 0, 1), week(1, 1, 2), week(3, 2, 0)};
+        FormRoom x = new FormRoom();
+        x.hours(3, 20);
+        for (int i = 3; i >= 0; i--) {
+            for (int what = 0; what < 3; what++) {
+                CHECK.due("plan(3, 4, " + i + ", " + what + ")", x.plan(3, 4, i, what), due[i][what]);
+            }
+            x.plan(8, 20, 19, 0);
+            x.plan(3, 5 + i, i, 0);
+        }
     }
 
     private static void hoursRefused() {

@@ -20,6 +20,8 @@ final class PlainRoom {
     private int start = 33554431;
     private int wide = 0;
     private int finding = 0;
+    /** What flights() has found, as long as SHEDS are the same. */
+    private final Map<Integer, Integer> seen = new HashMap<>();
 
     PlainRoom() {
         for (int i = 0; i < 5; i++) {
@@ -244,6 +246,7 @@ final class PlainRoom {
         }
         int was = laws[which];
         laws[which] = v;
+        seen.clear();
         return was;
     }
 
@@ -583,7 +586,7 @@ final class PlainRoom {
         return choices;
     }
 
-    private int flights(int left, int fresh, int worn, int done, Map<Integer, Integer> seen) {
+    private int flights(int left, int fresh, int worn, int done) {
         if (left == 0) {
             return 0;
         }
@@ -593,22 +596,22 @@ final class PlainRoom {
         }
         int most = 0;
         for (int[] c : choices(fresh, worn, done)) {
-            most = Math.max(most, with(c, left, fresh, worn, done, seen));
+            most = Math.max(most, with(c, left, fresh, worn, done));
         }
         seen.put(key, most);
         return most;
     }
 
-    private int with(int[] c, int left, int fresh, int worn, int done, Map<Integer, Integer> seen) {
+    private int with(int[] c, int left, int fresh, int worn, int done) {
         return c[0] + c[1] + flights(left - 1, fresh - c[0] + c[2] + c[3], worn - c[1] - c[2] + c[0],
-                done + c[1] - c[3], seen);
+                done + c[1] - c[3]);
     }
 
     int hours(int n, int weeks) {
         if (!in(n, 1, 8) || !in(weeks, 1, 20)) {
             return -2;
         }
-        return 10 * flights(weeks, n, 0, 0, new HashMap<>());
+        return 10 * flights(weeks, n, 0, 0);
     }
 
     private static boolean preferred(int[] one, int[] other) {
@@ -626,16 +629,15 @@ final class PlainRoom {
         if (!in(n, 1, 8) || !in(weeks, 1, 20) || i < 0 || i >= weeks || !in(what, 0, 2)) {
             return -2;
         }
-        Map<Integer, Integer> seen = new HashMap<>();
         int fresh = n;
         int worn = 0;
         int done = 0;
         int[] best = null;
         for (int week = 0; week <= i; week++) {
             best = null;
-            int most = flights(weeks - week, fresh, worn, done, seen);
+            int most = flights(weeks - week, fresh, worn, done);
             for (int[] c : choices(fresh, worn, done)) {
-                if (with(c, weeks - week, fresh, worn, done, seen) == most && (best == null || preferred(c, best))) {
+                if (with(c, weeks - week, fresh, worn, done) == most && (best == null || preferred(c, best))) {
                     best = c;
                 }
             }

@@ -15,13 +15,14 @@ public final class RandomRunsTest {
     private final FormRoom room = new FormRoom();
     private final PlainRoom plain = new PlainRoom();
     private String call = "";
+    private int calls = 0;
 
     private RandomRunsTest(long seed) {
         random = new Random(seed);
     }
 
     public static void main(String[] args) {
-        int runs = args.length > 0 ? Integer.parseInt(args[0]) : 400;
+        int runs = args.length > 0 ? Integer.parseInt(args[0]) : 600;
         for (int run = 0; run < runs; run++) {
             new RandomRunsTest(run).run(run);
         }
@@ -31,7 +32,8 @@ public final class RandomRunsTest {
     private void run(int run) {
         // a run keeps to some calls, so that each state is gone deep into
         int theme = run % 6;
-        for (int i = 0; i < 440; i++) {
+        // a room is good for 512 calls, of which one step here may need 62 and the end nine
+        for (int i = 0; calls < 440; i++) {
             int which = i % 40 == 39 ? 37 : pick(theme);
             long[] answers = ask(which);
             CHECK.due("run " + run + ", call " + i + ": " + call, answers[0], answers[1]);
@@ -109,9 +111,9 @@ public final class RandomRunsTest {
             case "lose":
                 return new int[] {some(0, 3)};
             case "about":
-                return new int[] {some(0, Math.max(0, room.count(0) - 1)), some(0, 6)};
+                return new int[] {some(0, lastForm()), some(0, 6)};
             case "fill":
-                return new int[] {some(0, Math.max(0, room.count(0) - 1)), some(0, 2), box()};
+                return new int[] {some(0, lastForm()), some(0, 2), box()};
             case "asOf":
                 return new int[] {random.nextInt(3) == 0 ? 99 : week()};
             case "type":
@@ -121,7 +123,7 @@ public final class RandomRunsTest {
             case "fault":
                 return new int[] {some(0, 4)};
             case "asks":
-                return new int[] {some(0, 1), some(0, Math.max(0, room.count(0) - 1))};
+                return new int[] {some(0, 1), some(0, lastForm())};
             case "counts":
             case "share":
                 return new int[] {some(0, 1), some(0, 1)};
@@ -150,6 +152,11 @@ public final class RandomRunsTest {
             default:
                 return laterArguments(which);
         }
+    }
+
+    private int lastForm() {
+        calls++;
+        return Math.max(0, room.count(0) - 1);
     }
 
     private int[] laterArguments(int which) {
@@ -278,7 +285,8 @@ public final class RandomRunsTest {
         }
     }
 
-    private static long[] both(long got, long want) {
+    private long[] both(long got, long want) {
+        calls++;
         return new long[] {got, want};
     }
 
