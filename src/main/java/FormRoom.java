@@ -10,6 +10,8 @@ public final class FormRoom {
     public static final int NONE = -1, BAD = -2, NOT = -3, FULL = -4;
 
     private static final int FINE = 0;
+    private static final int LEAST_INT = 1 << 31;
+    private static final long LEAST_LONG = 1L << 63;
     private static final int NULL = 1, INDEX = 2, CAST = 3, STORE = 4, SIZE = 5;
 
     private static final int SIGHTED = 0, DROPPED = 1, SAILED = 2, MENDED = 3;
@@ -427,7 +429,7 @@ public final class FormRoom {
         Sheet sheet = sheetAt(s);
         int refusal = itemRefusal(sheet, format, i);
         if (sheet == null || refusal != FINE) {
-            return Integer.MIN_VALUE;
+            return LEAST_INT;
         }
         return sheet.item(i);
     }
@@ -532,7 +534,7 @@ public final class FormRoom {
 
     /** A refusal where the answer is a long: small numbers are answers there. */
     private static long asLong(int refusal) {
-        return Long.MIN_VALUE - refusal;
+        return LEAST_LONG - refusal;
     }
 
     private int found(int finding) {
